@@ -1046,7 +1046,7 @@ public final class TouchLeague {
         }
 
         private int signAt(int place) {
-            return within(place, 0, length - 1) ? signs[place] : 0;
+            return place >= 0 && place < length && place < signs.length ? signs[place] : 0;
         }
 
         private static boolean isDigit(int sign) {
