@@ -541,7 +541,6 @@ public final class TouchLeague {
 
         League() {
             texts.addAll();
-            pairs.addAll();
         }
 
         void copyFrom(League other) {

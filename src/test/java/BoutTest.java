@@ -187,6 +187,10 @@ public final class BoutTest {
 
     private static void timeDecides() {
         TouchLeague x = twoWithBout(5, 100, 0);
+        x.event(0, TOUCH, 0, 99);
+        check.due("with more, at the limit", x.event(0, TOUCH, 1, 100), 1);
+        about(x, "it counts", 1, 1, 0, -1);
+        x = twoWithBout(5, 100, 0);
         x.event(0, TOUCH, 1, 100);
         about(x, "at the limit", 0, 1, 0, -1);
         check.due("the first time told above it", x.event(0, TOUCH, 0, 101), 2);

@@ -136,6 +136,7 @@ public final class PhraseTest {
         check.due("time -1", x.line(FOIL, -1), -2);
         check.due("time 10000", x.line(FOIL, 10000), -2);
         check.due("time 9999", x.line(FOIL, 9999), 0);
+        check.due("time 0", x.line(FOIL, 0), 0);
         check.due("touch of weapon 3", x.touch(3), -2);
         check.due("touch of weapon -1", x.touch(-1), -2);
     }
@@ -149,6 +150,7 @@ public final class PhraseTest {
             check.due("beyond it", acts(0, LIGHT, 7, 1, LIGHT, 8 + within[weapon]).touch(weapon), 0);
             check.due("at once", acts(0, LIGHT, 7, 1, LIGHT, 7).touch(weapon), both);
             check.due("one alone", acts(0, ATTACK, 3, 1, LIGHT, 7).touch(weapon), 1);
+            check.due("one alone", acts(1, ATTACK, 3, 0, LIGHT, 7).touch(weapon), 0);
             check.due("no light", acts(0, ATTACK, 3).touch(weapon), -1);
             check.due("the first of each counts", acts(0, LIGHT, 1, 0, LIGHT, 390, 1, LIGHT, 400).touch(weapon), 0);
         }

@@ -6,6 +6,7 @@ public final class RefereeTest {
         refereesAreRefused();
         kinAreOut();
         leastHours();
+        sumsOfHours();
         firstOfLikeOnes();
         noService();
         serviceIsRefused();
@@ -77,6 +78,24 @@ public final class RefereeTest {
         check.due("three serve", x.serve(7), 3);
         check.due("one more", x.hours(1), 2);
         check.due("nobody serves at no bouts", x.serve(0), 0);
+    }
+
+    /** Who had none could serve at bout 0, but then one who had five must serve at bout 1: 2 and 0 is less. */
+    private static void sumsOfHours() {
+        TouchLeague x = threeBouts();
+        x.referee(0, 5);
+        x.referee(2, 5);
+        for (int i = 0; i < 5; i++) {
+            check.due("the one without kin at bout 1", x.serve(2), 1);
+        }
+        for (int i = 0; i < 2; i++) {
+            check.due("the one without kin at bout 0", x.serve(1), 1);
+        }
+        x.referee(9, 5);
+        check.due("five hours", x.hours(0), 5);
+        check.due("two hours", x.hours(1), 2);
+        check.due("two at bout 0", x.service(3, 0), 1);
+        check.due("none at bout 1", x.service(3, 1), 2);
     }
 
     private static void firstOfLikeOnes() {
@@ -211,6 +230,9 @@ public final class RefereeTest {
         check.due("15 of 20", habitOf(15, 5), 1);
         check.due("14 of 20", habitOf(14, 6), 0);
         check.due("30 of 60", habitOf(30, 30), 0);
+        check.due("20 of 30: 0.0494", habitOf(20, 10), 1);
+        check.due("13 of 18: 0.0481", habitOf(5, 13), -1);
+        check.due("29 of 46: 0.0519", habitOf(29, 17), 0);
         check.due("36 of 60", habitOf(36, 24), 0);
         check.due("37 of 60", habitOf(37, 23), 1);
         check.due("23 of 60", habitOf(23, 37), -1);

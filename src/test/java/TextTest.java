@@ -201,6 +201,10 @@ public final class TextTest {
         check.due("then as the order", x.beside(3, 1, 1), 0);
         check.due("then as the order", x.beside(3, 1, 2), 1);
         check.due("not so many", x.beside(3, 1, 3), -1);
+        Check.write(x, 0, "0-w*10+s");
+        check.due("all three turned", x.beside(0, 1, 0), 2);
+        check.due("all three turned", x.beside(0, 1, 1), 1);
+        check.due("all three turned", x.beside(0, 1, 2), 0);
         check.due("i -1", x.beside(3, 1, -1), -2);
         check.due("no such pool", x.beside(3, 3, 0), -2);
         check.due("pool -1", x.beside(3, -1, 0), -2);
