@@ -26,7 +26,7 @@ public final class TouchLeague {
         phrases = new Phrases(league.acts);
         bouts = new Bouts(league.bouts);
         formula = new Formula(league.texts);
-        pools = new Pools(league, formula);
+        pools = new Pools(league, bouts, formula);
         ladders = new Ladders(league, bouts);
         draw = new Apart(league);
         referees = new Referees(league);
@@ -386,10 +386,12 @@ public final class TouchLeague {
         if (!within(i, 0, images.length - 1)) {
             return BAD;
         }
-        if (images[i] == null) {
-            images[i] = new League();
+        League kept = images[i];
+        if (kept == null) {
+            kept = new League();
+            images[i] = kept;
         }
-        images[i].copyFrom(league);
+        kept.copyFrom(league);
         return 1;
     }
 
@@ -397,10 +399,11 @@ public final class TouchLeague {
         if (!within(i, 0, images.length - 1)) {
             return BAD;
         }
-        if (images[i] == null) {
+        League kept = images[i];
+        if (kept == null) {
             return NO;
         }
-        league.copyFrom(images[i]);
+        league.copyFrom(kept);
         return 1;
     }
 
@@ -845,9 +848,9 @@ public final class TouchLeague {
         final long[] told = new long[MOST_FENCERS];
         int many;
 
-        Pools(League league, Formula formula) {
+        Pools(League league, Bouts bouts, Formula formula) {
             this.league = league;
-            this.bouts = new Bouts(league.bouts);
+            this.bouts = bouts;
             this.formula = formula;
         }
 
@@ -1223,7 +1226,7 @@ public final class TouchLeague {
     /** Pools made with clubs and lands apart: ways are tried in their order, one that can not be better is left. */
     private static final class Apart {
         static final int MOST_FENCERS = 12, MOST_POOLS = 3;
-        static final int SAME_CLUB = 3, SAME_LAND = 1;
+        static final int SAME_CLUB = 3, SAME_LAND = 1, MORE_THAN_ANY = 1000000;
 
         final League league;
         final int[] seeded = new int[MOST_FENCERS];
@@ -1252,7 +1255,7 @@ public final class TouchLeague {
         void make(int fencers, int p) {
             many = league.seededInto(fencers, seeded);
             pools = Math.max(1, p);
-            least = Integer.MAX_VALUE;
+            least = MORE_THAN_ANY;
             for (int at = 0; at < many; at++) {
                 for (int ahead = 0; ahead < at; ahead++) {
                     clash.set(at, ahead, clashOf(seeded[at], seeded[ahead]));

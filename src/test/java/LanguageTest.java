@@ -9,7 +9,7 @@ public final class LanguageTest {
     private static final String[] NOT_THERE = {
         "\\bthrow\\b", "\\btry\\b", "\\bcatch\\b", "\\bsynchronized\\b", "\\bassert\\b", "\\bimport\\b", "\\bpackage\\b",
         "\\bprotected\\b", "->", "::", "\\bnative\\b", "\\bvolatile\\b", "\\w+Exact\\b", "\\bObject\\b", "\\bThread\\b",
-        "\\bSystem\\.(?!arraycopy\\b)", "\\bequals\\b", "\\bhashCode\\b", "\\btoString\\b", "\\brandom\\b",
+        "\\bSystem\\.(?!arraycopy\\b)", "\\bequals\\b", "\\bhashCode\\b", "\\btoString\\b", "\\brandom\\b", "(MAX|MIN)_VALUE",
         "\\bvar\\b", "\\bchar\\[\\]\\[\\]", "\\w\\[\\]\\[\\]\\[\\]", "while \\(true\\)", "for \\(;;\\)"};
     private static final Pattern METHOD = Pattern.compile("(?m)^ {4,8}[\\w\\[\\] ]+?\\b(\\w+)\\(([^()]*)\\) \\{$");
     private static final Check check = new Check();
