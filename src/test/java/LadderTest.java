@@ -8,6 +8,7 @@ public final class LadderTest {
         seedsOrderTheTable();
         roundsGoOn();
         whichBoutTells();
+        eitherOrder();
         ladderIsRefused();
         poolsApart();
         rowsOfPools();
@@ -80,6 +81,32 @@ public final class LadderTest {
         check.due("not one that goes on", x.ladder(3, 1, 0), 0);
         x.tear(latest, true);
         check.due("not a void one", x.ladder(3, 1, 0), 1);
+    }
+
+    /** The winner may be the first or the second of the bout, and the upper or the lower one of the meeting. */
+    private static void eitherOrder() {
+        for (int a = 0; a <= 1; a++) {
+            for (int who = 0; who <= 1; who++) {
+                int winner = who == 0 ? a : 1 - a;
+                String told = "bout of " + a + " and " + (1 - a) + " for " + who;
+                TouchLeague x = Check.withPlainFencers(2);
+                x.bout(a, 1 - a, -1, 1, 5, 1 - who);
+                check.due(told + ": not yet", x.ladder(3, 1, 0), NOT_TOLD);
+                x.event(0, 0, who, 1);
+                check.due(told + ": by a touch", x.ladder(3, 1, 0), winner);
+                x.bout(a, 1 - a, -1, 5, 5, 1 - who);
+                x.end(1);
+                check.due(told + ": by the toss of the other one", x.ladder(3, 1, 0), 1 - winner);
+                x.bout(a, 1 - a, -1, 5, 5, 1 - who);
+                x.walkover(2, who);
+                check.due(told + ": by a walkover", x.ladder(3, 1, 0), winner);
+                x.bout(1 - a, a, -1, 5, 5, who);
+                x.event(3, 4, 1 - who, 1);
+                check.due(told + ": by black, the other way round", x.ladder(3, 1, 0), 1 - winner);
+                x.tear(3, true);
+                check.due(told + ": that one is void", x.ladder(3, 1, 0), winner);
+            }
+        }
     }
 
     private static void ladderIsRefused() {

@@ -8,6 +8,7 @@ public final class RefereeTest {
         leastHours();
         sumsOfHours();
         firstOfLikeOnes();
+        deadEnds();
         noService();
         serviceIsRefused();
         notesAreRefused();
@@ -107,6 +108,24 @@ public final class RefereeTest {
         x.referee(8, 4);
         check.due("now the first serves first", x.service(3, 0), 0);
         check.due("kin is out", x.service(3, 1), 2);
+    }
+
+    /** Whatever hours he has: who would leave a later bout without a referee does not serve at an earlier one. */
+    private static void deadEnds() {
+        for (int hours = 0; hours <= 3; hours++) {
+            TouchLeague x = threeBouts();
+            x.referee(9, 5);
+            for (int i = 0; i < hours; i++) {
+                check.due("alone at bout 1", x.serve(2), 1);
+            }
+            x.referee(2, 5);
+            check.due("bout 0 of one with " + hours, x.service(3, 0), 1);
+            check.due("bout 1 of one with " + hours, x.service(3, 1), 0);
+            check.due("both serve", x.serve(3), 2);
+            check.due("hours of the first", x.hours(0), hours + 1);
+            check.due("hours of the second", x.hours(1), 1);
+            check.due("no third one", x.serve(7), -1);
+        }
     }
 
     private static void noService() {
